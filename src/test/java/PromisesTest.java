@@ -18,6 +18,7 @@ public final class PromisesTest {
         keep();
         hive();
         places();
+        kinds();
         enter();
         tell();
         pass();
@@ -34,6 +35,30 @@ public final class PromisesTest {
         failed();
         count();
         Due.end();
+    }
+
+    /** Row: a kind; place: whether it goes into the kind of that number. */
+    private static final int[][] GOES = {
+        {1, 0, 0, 0, 0, 0, 0, 0},
+        {0, 1, 1, 0, 1, 1, 1, 1},
+        {0, 0, 1, 0, 1, 1, 1, 1},
+        {0, 0, 0, 1, 1, 1, 1, 1},
+        {0, 0, 0, 0, 1, 1, 1, 1},
+        {0, 0, 0, 0, 0, 1, 1, 1},
+        {0, 0, 0, 0, 0, 0, 1, 1},
+        {0, 0, 0, 0, 0, 0, 0, 1},
+    };
+
+    private static void kinds() {
+        HiveColumns x = yard();
+        for (int kind = 0; kind <= 7; kind++) {
+            for (int other = 0; other <= 7; other++) {
+                int due = GOES[kind][other] == 1 ? 1 : MISFIT;
+                Due.is("7 kind " + kind + " entered into " + other, x.enter(kind, other, 0, 0), due);
+                Due.is("8 kind " + kind + " told as " + other, x.tell(other, kind, 1), due == 1 ? 0 : MISFIT);
+                Due.is("9 kind " + kind + " passed into " + other, x.pass(kind, 1, other, 2), due);
+            }
+        }
     }
 
     private static HiveColumns yard() {
@@ -95,6 +120,7 @@ public final class PromisesTest {
             Due.is("2 as before", x.sort(15), 10);
         }
         for (int n : new int[] {-9, 0, 25, Integer.MIN_VALUE}) {
+            x.hold(0, 4, 1);
             x.hold(3, 4, 1);
             Due.is("2 hold(3, 12, " + n + ")", x.hold(3, 12, n), 1);
             Due.is("2 holds nothing", x.sort(3), 12);
