@@ -9,11 +9,22 @@ final class Due {
     static void is(String call, long got, long want) {
         asked++;
         if (got != want) {
-            wrong++;
-            // A broken promise fails in many places; the first ones tell enough.
-            if (wrong <= 40) {
-                System.out.println(call + " answered " + got + ", due is " + want);
-            }
+            tellWrong(call + " answered " + got + ", due is " + want);
+        }
+    }
+
+    static void alike(String call, String got, String want) {
+        asked++;
+        if (!got.equals(want)) {
+            tellWrong(call + "\n  left  " + got + "\n  due is " + want);
+        }
+    }
+
+    private static void tellWrong(String what) {
+        wrong++;
+        // A broken promise fails in many places; the first ones tell enough.
+        if (wrong <= 40) {
+            System.out.println(what);
         }
     }
 
