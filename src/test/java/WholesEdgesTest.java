@@ -38,6 +38,7 @@ public final class WholesEdgesTest {
         failedAfterCallsThatCannotFail();
         countOfCauses();
         countOutside();
+        longestRun();
         Due.end();
     }
 
@@ -470,5 +471,20 @@ public final class WholesEdgesTest {
         for (int cause = 0; cause <= 3; cause++) {
             Due.is("21 not OUTSIDE, " + cause, new HiveColumns().count(cause), 0);
         }
+    }
+
+    private static void longestRun() {
+        String sentence = "'used for at most 512 calls'";
+        HiveColumns x = new HiveColumns();
+        for (int n = 0; n < 511; n++) {
+            x.places(0);
+        }
+        Due.is(sentence + ", all of them failed", x.count(1), 511);
+        HiveColumns y = new HiveColumns();
+        for (int n = 0; n < 510; n++) {
+            Due.is(sentence + ", a new ROW each", y.hold(n % 16, n % 11, 24), 1);
+        }
+        Due.is(sentence + ", the last but one", y.sort(509 % 16), 509 % 11);
+        Due.is(sentence + ", the last", y.places(509 % 16), 24);
     }
 }
